@@ -147,11 +147,15 @@ public final class TriangleSets {
         if (rowCount == 0) {
             return NONE;
         }
-        int answer = tellConditionOfRows() ? IS_CONDITION : makeRounds();
+        int answer = tellConditionOfRows() ? IS_CONDITION : GOES_ON;
+        while (answer == GOES_ON && decomposeRounds < MOST_ROUNDS) {
+            decomposeRounds++;
+            answer = makeRound();
+        }
         if (answer != IS_DONE) {
             set.size = 0;
         }
-        return answer;
+        return answer == GOES_ON ? IS_SPENT : answer;
     }
 
     public int prove(int polynomial) {
@@ -354,17 +358,6 @@ public final class TriangleSets {
             }
         }
         return false;
-    }
-
-    private int makeRounds() {
-        while (decomposeRounds < MOST_ROUNDS) {
-            decomposeRounds++;
-            int answer = makeRound();
-            if (answer != GOES_ON) {
-                return answer;
-            }
-        }
-        return IS_SPENT;
     }
 
     private int makeRound() {

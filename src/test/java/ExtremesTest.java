@@ -1,0 +1,46 @@
+/** No call ever throws but pseudo() by 0, whatever its arguments and whatever came before. */
+public final class ExtremesTest {
+    private static final int[] INTS = {Integer.MIN_VALUE, -9, -1, 0, 1, 3, 7, 8, 15, 16, 60, 0x7FFFFFFF};
+    private static final long[] LONGS = {Long.MIN_VALUE, -(1L << 27), -1, 0, 1, 1L << 26, Long.MAX_VALUE};
+
+    public static void main(String[] args) {
+        Check check = new Check();
+        TriangleSets fresh = new TriangleSets();
+        TriangleSets full = Build.with("fdddddfd");
+        for (int k = 0; k < 16; k++) {
+            int p = Build.sum(full, k + 1, k << 4, -1, 0x100 << k % 6, 1, 0x80000000 >>> k);
+            full.use(p, k % 3 == 0);
+        }
+        int calls = 0;
+        for (TriangleSets x : new TriangleSets[] {fresh, full}) {
+            for (int a : INTS) {
+                for (int b : INTS) {
+                    calls += callAll(x, a, b);
+                }
+            }
+        }
+        check.due("calls were made", calls > 0, true);
+        check.end();
+    }
+
+    private static int callAll(TriangleSets x, int a, int b) {
+        x.order(a, b);
+        for (long v : LONGS) {
+            x.term(a, v, b);
+            x.point(a, v);
+            x.pseudo(v, -1);
+        }
+        x.use(a, b > 0);
+        x.decompose();
+        x.prove(b);
+        x.member(a, b);
+        x.told(a);
+        x.quotient(b);
+        x.value(a, b);
+        for (int c : INTS) {
+            x.coefficient(a, b, c);
+            x.powers(a, b, c);
+        }
+        return 1;
+    }
+}
