@@ -136,6 +136,10 @@ public final class TriangleSets {
     }
 
     public int decompose() {
+        // A refused call changes nothing: what the decompose() before it told stays told.
+        if (!hasSomethingToDecompose()) {
+            return NONE;
+        }
         remainder.clear();
         if (set.size > 0) {
             return IS_DONE;
@@ -144,9 +148,6 @@ public final class TriangleSets {
         decomposeRounds = 0;
         decomposeSteps = 0;
         takeHypotheses();
-        if (rowCount == 0) {
-            return NONE;
-        }
         int answer = tellConditionOfRows() ? IS_CONDITION : GOES_ON;
         while (answer == GOES_ON && decomposeRounds < MOST_ROUNDS) {
             decomposeRounds++;
@@ -340,10 +341,23 @@ public final class TriangleSets {
         places.powersToKeys(condition);
     }
 
+    private boolean comesToRows(int i) {
+        return hypotheses[i] && polynomials[i].count > 0;
+    }
+
+    private boolean hasSomethingToDecompose() {
+        for (int i = 0; i < polynomialCount; i++) {
+            if (comesToRows(i)) {
+                return true;
+            }
+        }
+        return false;
+    }
+
     private void takeHypotheses() {
         rowCount = 0;
         for (int i = 0; i < polynomialCount; i++) {
-            if (hypotheses[i] && polynomials[i].count > 0 && rowCount < MOST_ROWS) {
+            if (comesToRows(i) && rowCount < MOST_ROWS) {
                 rows[rowCount].take(polynomials[i], places);
                 rowCount++;
             }

@@ -4,6 +4,7 @@ public final class DecomposeTest {
 
     public static void main(String[] args) {
         nothingToDecompose();
+        refusedOnesChangeNothing();
         oneHypothesis();
         primitive();
         twoRounds();
@@ -35,7 +36,29 @@ public final class DecomposeTest {
         x.use(p, false);
         check.due("condition is told still", x.told(8), 1);
         check.due("none any more", x.decompose(), -1);
-        Build.dueTold(check, "none any more", x, 3, 0, 0, 0, 0, 0, 0, 0);
+        Build.dueTold(check, "told still", x, 3, 0, 0, 1, 0, 0, 1, 0);
+        Build.due(check, "condition stays", x, 4, 0, 1, 0x1);
+    }
+
+    private static void refusedOnesChangeNothing() {
+        TriangleSets x = Build.with("ffdd");
+        int p = Build.hypothesis(x, 2, 0x100, -1, 0x1, -1, 0x10);
+        int q = Build.hypothesis(x, 1, 0x1000, -1, 0x200);
+        int r = Build.sum(x, 1, 0x1000);
+        x.decompose();
+        x.prove(r);
+        Build.dueTold(check, "before", x, 3, 2, 2, 3, 5, 1, 0, 3);
+        x.use(p, false);
+        x.use(q, false);
+        check.due("refused", x.decompose(), -1);
+        Build.dueTold(check, "refused", x, 3, 0, 2, 3, 5, 1, 0, 0);
+        // A HYPOTHESIS that is 0 is none to decompose, and the next one that is not counts anew.
+        int zero = Build.hypothesis(x);
+        check.due("refused for 0", x.decompose(), -1);
+        Build.dueTold(check, "refused for 0", x, 3, 0, 2, 3, 5, 1, 0, 0);
+        x.term(zero, 1, 0x100);
+        check.due("not refused", x.decompose(), 1);
+        Build.dueTold(check, "not refused", x, 3, 1, 1, 1, 0, 1, 0, 0);
     }
 
     private static void oneHypothesis() {

@@ -194,6 +194,15 @@ final class Model {
     }
 
     int decompose() {
+        List<Sum> first = new ArrayList<>();
+        for (int i = 0; i < polynomials.size(); i++) {
+            if (hypotheses.get(i) && !polynomials.get(i).isEmpty()) {
+                first.add(primitive(polynomials.get(i)));
+            }
+        }
+        if (first.isEmpty()) {
+            return NONE;
+        }
         remainder = null;
         if (set != null) {
             return 1;
@@ -201,15 +210,7 @@ final class Model {
         condition = null;
         rounds = 0;
         decomposeSteps = 0;
-        rows = new ArrayList<>();
-        for (int i = 0; i < polynomials.size(); i++) {
-            if (hypotheses.get(i) && !polynomials.get(i).isEmpty()) {
-                rows.add(primitive(polynomials.get(i)));
-            }
-        }
-        if (rows.isEmpty()) {
-            return NONE;
-        }
+        rows = first;
         for (Sum row : rows) {
             if (main(row) == NONE) {
                 condition = row;
