@@ -2,6 +2,9 @@ import java.util.Random;
 
 /** Runs of up to 512 calls, drawn from fixed seeds, answered by the class and by the Model alike. */
 public final class RandomRunsTest {
+    // An object has 512 calls; what it answers to later ones is free.
+    private static final int MOST_CALLS = 512;
+
     private final Check check;
     private final Random random;
     private final TriangleSets real = new TriangleSets();
@@ -51,7 +54,7 @@ public final class RandomRunsTest {
                 use(k, true);
             }
         }
-        while (calls < 440) {
+        while (calls < 360) {
             act();
         }
         lookAtAll();
@@ -137,24 +140,29 @@ public final class RandomRunsTest {
     }
 
     private void lookAtAll() {
-        for (int of = 0; of < 5; of++) {
-            int most = of == 0 ? model.told(1) : of < 3 ? model.told(3) : 1;
-            for (int i = 0; i <= most; i++) {
-                for (int t = 0; t < 61 && (t == 0 || model.powers(of, i, t - 1) != TriangleSets.NONE); t++) {
-                    coefficient(of, i, t);
-                    powers(of, i, t);
-                }
-                value(of, i);
-            }
-        }
         for (int i = 0; i < 8; i++) {
-            for (int what = 0; what < 5; what++) {
-                member(i, what);
-            }
+            member(i, 3);
             quotient(i);
         }
         for (int what = 0; what < 11; what++) {
             told(what);
+        }
+        for (int of = 4; of >= 0; of--) {
+            int most = of == 0 ? model.told(1) : of < 3 ? model.told(3) : 1;
+            for (int i = 0; i <= most && calls < MOST_CALLS; i++) {
+                value(of, i);
+                lookAtTerms(of, i);
+            }
+        }
+    }
+
+    private void lookAtTerms(int of, int i) {
+        for (int t = 0; t < 61 && calls < MOST_CALLS - 1; t++) {
+            coefficient(of, i, t);
+            powers(of, i, t);
+            if (model.powers(of, i, t) == TriangleSets.NONE) {
+                break;
+            }
         }
     }
 
