@@ -24,6 +24,7 @@ public final class DecomposeTest {
         baseTakesHigherMainVariables();
         baseTakesLowDegreesOnly();
         sameOnesDoNotCome();
+        nearlySameOnesCome();
         likeHypothesesAreTwoRows();
         noneCame();
         check.end();
@@ -328,6 +329,39 @@ public final class DecomposeTest {
         check.due("1 is 0", x.decompose(), 0);
         Build.due(check, "1", x, 4, 0, 1, 0);
         Build.dueTold(check, "same", x, 3, 0, 2, 4, 4, 0, 1, 0);
+    }
+
+    private static void nearlySameOnesCome() {
+        check.sentence("Terms, the same: in all TERMS, not in the first ones alone");
+        TriangleSets x = Build.with("dd");
+        Build.hypothesis(x, 1, 0x01, -1, 0);
+        Build.hypothesis(x, 1, 0x10, 1, 0x02);
+        Build.hypothesis(x, 1, 0x11);
+        // y + 1 and y come, and y, of fewer TERMS, leaves x^2 of y + x^2 in the next ROUND, and that 1.
+        check.due("fewer", x.decompose(), 0);
+        Build.dueTold(check, "fewer", x, 4, 2, 5, 6, 0, 1, 0);
+        // The other way round: y comes, then y + 1.
+        x = Build.with("dd");
+        Build.hypothesis(x, 1, 0x01, -1, 0);
+        Build.hypothesis(x, 1, 0x11);
+        Build.hypothesis(x, 1, 0x10, 1, 0x02);
+        check.due("more", x.decompose(), 0);
+        Build.dueTold(check, "more", x, 4, 2, 5, 7, 0, 1, 0);
+        // y + 1 and y + 2, of like powers.
+        x = Build.with("dd");
+        Build.hypothesis(x, 1, 0x01, -1, 0);
+        Build.hypothesis(x, 1, 0x11, 1, 0);
+        Build.hypothesis(x, 1, 0x11, 2, 0);
+        check.due("another coefficient", x.decompose(), 0);
+        check.due("another coefficient", x.told(5), 5);
+        // y + a and y + b, of like coefficients.
+        x = Build.with("ffdd");
+        Build.hypothesis(x, 1, 0x0100, -1, 0);
+        Build.hypothesis(x, 1, 0x1100, 1, 0x01);
+        Build.hypothesis(x, 1, 0x1100, 1, 0x10);
+        check.due("other powers", x.decompose(), 0);
+        check.due("other powers", x.told(5), 5);
+        Build.due(check, "other powers", x, 4, 0, 1, 0x10, -1, 0x01);
     }
 
     private static void likeHypothesesAreTwoRows() {

@@ -3,6 +3,8 @@ public final class FullTest {
     private static final Check check = new Check();
 
     public static void main(String[] args) {
+        sixtyTermsInAnyOrder();
+        mostProductsOfAStep();
         memberOfSixtyTerms();
         initialOfSixtyTerms();
         orderOfSixtyTerms();
@@ -22,6 +24,57 @@ public final class FullTest {
             check.due("term " + k, x.term(made, 2 * k + 2, times | k), true);
         }
         return made;
+    }
+
+    private static void sixtyTermsInAnyOrder() {
+        check.sentence("Promise 5, 60 TERMS come and go in any order");
+        // 1 goes upwards, 59 downwards, 37 and 23 to and fro: each goes through all 60.
+        for (int stride : new int[] {1, 59, 37, 23}) {
+            TriangleSets x = Build.with("ff");
+            int p = x.polynomial();
+            for (int k = 0; k < 60; k++) {
+                int powers = (k + 1) * stride % 60;
+                check.due("term " + powers, x.term(p, powers + 1, powers), true);
+            }
+            check.due("61st", x.term(p, 1, 60), false);
+            for (int t = 0; t < 60; t++) {
+                check.due("term " + t, x.coefficient(0, p, t), 60 - t);
+                check.due("term " + t, x.powers(0, p, t), 59 - t);
+            }
+            for (int k = 0; k < 60; k++) {
+                int powers = (k + 7) * stride % 60;
+                check.due("away " + powers, x.term(p, -powers - 1, powers), true);
+            }
+            Build.due(check, "0 again", x, 0, p);
+        }
+    }
+
+    /** 60 TERMS of the one by 59 of the other have no powers in common: 3540 TERMS within one STEP. */
+    private static void mostProductsOfAStep() {
+        check.sentence("Terms, SPENT: a STEP makes one that is not SOUND, by 3540 TERMS");
+        for (boolean higher : new boolean[] {false, true}) {
+            TriangleSets x = Build.with("ffffd");
+            int initial = higher ? 8 : 0;
+            int rest = higher ? 0 : 8;
+            int wide = x.polynomial();
+            int tall = Build.sum(x, 1, 0x10000);
+            for (int k = 0; k < 60; k++) {
+                x.term(wide, 1, 0x10000 | k << initial);
+            }
+            for (int k = 1; k < 60; k++) {
+                x.term(tall, 1, k << rest);
+            }
+            x.use(wide, true);
+            check.due("decompose", x.decompose(), 1);
+            check.due("initial of 60 terms", x.prove(tall), 2);
+            check.due("no step", x.told(7), 0);
+            x.use(wide, false);
+            x.use(tall, true);
+            check.due("decompose", x.decompose(), 1);
+            check.due("lead of 60 terms", x.prove(wide), 2);
+            check.due("no step", x.told(7), 0);
+            check.due("all of it cancels", x.prove(tall), 1);
+        }
     }
 
     private static void memberOfSixtyTerms() {
