@@ -9,6 +9,8 @@ public final class ChangeTest {
         hypothesesChange();
         theirTermsChange();
         theConditionStays();
+        theNumbersStay();
+        thePointStays();
         theSetDoesNotComeBack();
         newMembersHadNoSteps();
         whatChangesNothing();
@@ -113,6 +115,16 @@ public final class ChangeTest {
         dueNone("one that goes and comes", x);
     }
 
+    private static void change(TriangleSets x, int which) {
+        switch (which) {
+            case 0: x.variable(true); break;
+            case 1: x.order(0, 1); break;
+            case 2: x.use(0, false); break;
+            case 3: x.term(1, 1, 0x11); break;
+            default: x.polynomial(); break;
+        }
+    }
+
     private static void theConditionStays() {
         check.sentence("Terms, what else is told stays: the CONDITION (promises 10 to 12 and 14)");
         for (int change = 0; change < 5; change++) {
@@ -121,16 +133,32 @@ public final class ChangeTest {
             Build.hypothesis(x, 1, 0x10, -3, 0x1, 2, 0);
             x.point(0, 9);
             check.due("decompose", x.decompose(), 0);
-            switch (change) {
-                case 0: x.variable(true); break;
-                case 1: x.order(0, 1); break;
-                case 2: x.use(0, false); break;
-                case 3: x.term(1, 1, 0x11); break;
-                default: x.polynomial(); break;
-            }
+            change(x, change);
             Build.dueTold(check, "change " + change, x, 3, 0, 1, 2, 1, 0, 2, 0);
             Build.due(check, "change " + change, x, 4, 0, 1, 0x1, -1, 0);
             check.due("change " + change, x.value(4, 0), 8);
+        }
+    }
+
+    private static void theNumbersStay() {
+        check.sentence("Terms, what else is told stays: ROUNDS, ROWS and STEPS (promise 10)");
+        for (int change = 0; change < 5; change++) {
+            TriangleSets x = proven();
+            change(x, change);
+            Build.dueTold(check, "change " + change, x, 4, 2, 3, 5, 2, 0);
+        }
+    }
+
+    private static void thePointStays() {
+        check.sentence("Terms, THE POINT has a number for each VARIABLE: whatever else changes (promises 13 and 14)");
+        for (int change = 0; change < 5; change++) {
+            TriangleSets x = proven();
+            int p = Build.sum(x, 1, 0x001, 10, 0x010, 100, 0x100);
+            change(x, change);
+            check.due("change " + change, x.value(0, p), 532);
+            x.decompose();
+            x.prove(p);
+            check.due("decompose() and prove() after " + change, x.value(0, p), 532);
         }
     }
 

@@ -26,7 +26,12 @@ public final class DecomposeTest {
         sameOnesDoNotCome();
         nearlySameOnesCome();
         likeHypothesesAreTwoRows();
+        rowsInOrder();
+        formerBaseIsReduced();
+        remaindersAreMadePrimitive();
+        hypothesesStay();
         noneCame();
+        triangle();
         check.end();
     }
 
@@ -373,6 +378,58 @@ public final class DecomposeTest {
         Build.dueTold(check, "like ones", x, 3, 1, 1, 2, 1, 0, 0, 0);
     }
 
+    private static void rowsInOrder() {
+        check.sentence("Terms, Each of ROWS that is not in THE BASE, in order, is REDUCED by THE BASE");
+        // x is THE BASE; the first of the others leaves a, and the one behind them a^2.
+        TriangleSets x = Build.with("fd");
+        Build.hypothesis(x, 1, 0x10, 1, 0x1);
+        Build.hypothesis(x, 1, 0x10);
+        Build.hypothesis(x, 1, 0x10, 1, 0x2);
+        check.due("a", x.decompose(), 0);
+        Build.due(check, "a", x, 4, 0, 1, 0x1);
+        Build.dueTold(check, "a", x, 4, 1, 3, 1);
+        x.use(0, false);
+        check.due("a^2", x.decompose(), 0);
+        Build.due(check, "a^2", x, 4, 0, 1, 0x2);
+        Build.dueTold(check, "a^2", x, 4, 1, 2, 1);
+    }
+
+    private static void formerBaseIsReduced() {
+        check.sentence("Terms, THE BASE of each ROUND: one that was in that of the ROUND before is REDUCED, too");
+        // x^2 - a leaves (a - 1) x of x^3 - x, and that leaves a^2 - a of x^2 - a.
+        TriangleSets x = Build.with("fd");
+        Build.hypothesis(x, 1, 0x20, -1, 0x1);
+        Build.hypothesis(x, 1, 0x30, -1, 0x10);
+        check.due("condition", x.decompose(), 0);
+        Build.due(check, "condition", x, 4, 0, 1, 0x2, -1, 0x1);
+        Build.dueTold(check, "condition", x, 3, 0, 2, 3, 2, 0, 2, 0);
+    }
+
+    private static void remaindersAreMadePrimitive() {
+        check.sentence("Terms, is REDUCED by THE BASE, and the REMAINDER made PRIMITIVE");
+        // x - 2 leaves -6 y + 12 of -3 x y + 12.
+        TriangleSets x = Build.with("fdd");
+        Build.hypothesis(x, 1, 0x010, -2, 0);
+        Build.hypothesis(x, -3, 0x110, 12, 0);
+        check.due("decompose", x.decompose(), 1);
+        Build.due(check, "member", x, 1, 1, 1, 0x100, -2, 0);
+        Build.dueTold(check, "decompose", x, 3, 2, 2, 3, 3, 0, 0, 0);
+    }
+
+    private static void hypothesesStay() {
+        check.sentence("Terms, ROWS are the HYPOTHESES, each made PRIMITIVE: these themselves stay (promise 11)");
+        TriangleSets x = Build.with("fdd");
+        Build.hypothesis(x, -6, 0x020, 4, 0x001);
+        Build.hypothesis(x, 10, 0x120, -5, 0x000);
+        check.due("decompose", x.decompose(), 1);
+        Build.due(check, "member 0", x, 1, 0, 3, 0x020, -2, 0x001);
+        Build.due(check, "member 1", x, 1, 1, 4, 0x101, -3, 0x000);
+        Build.due(check, "polynomial 0", x, 0, 0, -6, 0x020, 4, 0x001);
+        Build.due(check, "polynomial 1", x, 0, 1, 10, 0x120, -5, 0x000);
+        check.due("hypotheses", x.told(2), 2);
+        check.due("polynomials", x.told(1), 2);
+    }
+
     private static void noneCame() {
         check.sentence("Terms, When none came, THE BASE is THE SET: that ROUND counts (promise 10)");
         TriangleSets x = Build.with("dd");
@@ -384,5 +441,29 @@ public final class DecomposeTest {
         check.due("one of ROWS left 0", x.decompose(), 1);
         check.due("one of ROWS left 0", x.told(4), 1);
         check.due("members", x.told(3), 2);
+    }
+
+    private static void triangle() {
+        check.sentence("What it is, brought into a triangle, one dependent variable more in each");
+        // Three planes through one point; each of them has all of x, y and z.
+        TriangleSets x = Build.with("fddd");
+        Build.hypothesis(x, 1, 0x1000, 1, 0x0100, 1, 0x0010, -6, 0);
+        Build.hypothesis(x, 1, 0x1000, 2, 0x0100, 3, 0x0010, -14, 0);
+        Build.hypothesis(x, 1, 0x1000, 4, 0x0100, 9, 0x0010, -36, 0);
+        check.due("decompose", x.decompose(), 1);
+        check.due("members", x.told(3), 3);
+        for (int i = 0; i < 3; i++) {
+            check.due("main variable of " + i, x.member(i, 0), i + 1);
+            check.due("degree of " + i, x.member(i, 1), 1);
+            for (int t = 0; t < x.member(i, 2); t++) {
+                check.due("nothing higher in " + i, x.powers(1, i, t) >>> 4 * (i + 2), 0);
+            }
+        }
+        int[] at = {3, 2, 1};
+        for (int k = 0; k < 3; k++) {
+            int powers = 1 << 4 * (k + 1);
+            check.due("VARIABLE " + (k + 1), x.prove(Build.sum(x, 1, powers, -at[k], 0)), 1);
+            check.due("not so", x.prove(Build.sum(x, 1, powers, -at[k] - 1, 0)), 0);
+        }
     }
 }

@@ -16,6 +16,7 @@ public final class ProveTest {
         noQuotientOfNoSuchMember();
         quotientStepByStep();
         quotientsAtThePointOfNow();
+        quotientsWrap();
         quotientsAtAnyPoint();
         quotientsOutliveTheirPolynomial();
         diagonalsOfAParallelogram();
@@ -240,6 +241,22 @@ public final class ProveTest {
         check.due("x = 2^62", x.quotient(1), Long.MIN_VALUE);
         x.point(1, 1L << 63);
         check.due("x = -2^63", x.quotient(1), 0);
+    }
+
+    private static void quotientsWrap() {
+        check.sentence("Terms, Values at THE POINT wrap (promise 15)");
+        // By x - a the quotient of x^3 is x^2 + a x + a^2.
+        TriangleSets x = Build.with("fd");
+        Build.hypothesis(x, 1, 0x10, -1, 0x1);
+        int p = Build.sum(x, 1, 0x30);
+        check.due("decompose", x.decompose(), 1);
+        check.due("prove", x.prove(p), 0);
+        x.point(0, 1L << 32);
+        x.point(1, (1L << 31) + 1);
+        check.due("2^62 + 2^32 + 1, 2^63 + 2^32 and 2^64", x.quotient(0), (3L << 62) + (1L << 33) + 1);
+        x.point(0, Long.MAX_VALUE);
+        x.point(1, Long.MIN_VALUE);
+        check.due("0, -2^63 and 1", x.quotient(0), Long.MIN_VALUE + 1);
     }
 
     private static void quotientsAtAnyPoint() {

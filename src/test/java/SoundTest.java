@@ -16,9 +16,12 @@ public final class SoundTest {
         primitiveTurnsSigns();
         primitiveOfOneTerm();
         primitiveOfZero();
+        leadingByTheOrder();
         mainVariable();
         conditions();
+        degrees();
         initials();
+        stepByHand();
         degreesOfAStep();
         fromTheLastToTheFirst();
         tillItIsZero();
@@ -245,6 +248,17 @@ public final class SoundTest {
         Build.dueTold(check, "rows", x, 3, 1, 1, 2, 1, 0, 0, 0);
     }
 
+    private static void leadingByTheOrder() {
+        check.sentence("Terms, the first one is LEADING: in THE ORDER of now (promise 3)");
+        TriangleSets x = Build.with("dd");
+        Build.hypothesis(x, 2, 0x01, -2, 0x10);
+        check.due("decompose", x.decompose(), 1);
+        Build.due(check, "1 is the higher", x, 1, 0, 1, 0x10, -1, 0x01);
+        x.order(0, 1);
+        check.due("decompose", x.decompose(), 1);
+        Build.due(check, "0 is the higher", x, 1, 0, 1, 0x01, -1, 0x10);
+    }
+
     private static void mainVariable() {
         check.sentence("Terms, MAIN VARIABLE: the highest VARIABLE not FREE in it");
         TriangleSets x = Build.with("ddff");
@@ -276,6 +290,24 @@ public final class SoundTest {
         check.due("0 is none", x.decompose(), -1);
     }
 
+    private static void degrees() {
+        check.sentence("Terms, DEGREE in a VARIABLE: the greatest power of it, in whichever TERM");
+        TriangleSets x = Build.with("ddf");
+        // c^3 x + c y + y^2: the LEADING TERM has no y at all, the next one less of it.
+        Build.hypothesis(x, 1, 0x301, 1, 0x110, 1, 0x020);
+        int more = Build.sum(x, 1, 0x500, 1, 0x030);
+        int less = Build.sum(x, 1, 0xF10, 1, 0x00F);
+        check.due("decompose", x.decompose(), 1);
+        check.due("main variable", x.member(0, 0), 1);
+        check.due("degree", x.member(0, 1), 2);
+        check.due("3 and 2 are not below", x.prove(more), 0);
+        check.due("3 and 2 are not below", x.told(7), 2);
+        Build.due(check, "rest", x, 3, 0, 1, 0x500, 1, 0x401, -1, 0x311, 1, 0x210);
+        check.due("1 is below", x.prove(less), 0);
+        check.due("1 is below", x.told(7), 0);
+        Build.due(check, "all is left", x, 3, 0, 1, 0xF10, 1, 0x00F);
+    }
+
     private static void initials() {
         check.sentence("Terms, INITIAL: what stands with the greatest power of its MAIN VARIABLE");
         TriangleSets x = Build.with("fddf");
@@ -286,6 +318,24 @@ public final class SoundTest {
         // The TERM with the FREE highest one to 15 is LEADING, but not of that DEGREE.
         Build.due(check, "member", x, 1, 0, 7, 0xF2FF, -3, 0x1300, 2, 0x0311, 5, 0x0300, 1, 0);
         Build.due(check, "initial", x, 2, 0, -3, 0x1000, 2, 0x0011, 5, 0);
+    }
+
+    private static void stepByHand() {
+        check.sentence("Terms, a STEP: f becomes I f - L x^(d - e) b (promise 8)");
+        // (2 b + a) x^2 + 3 x - b, so that I has two TERMS; so has L, which is a - 5 at first.
+        TriangleSets x = Build.with("ffd");
+        Build.hypothesis(x, 2, 0x210, 1, 0x201, 3, 0x100, -1, 0x010);
+        int once = Build.sum(x, 1, 0x201, -5, 0x200, 7, 0);
+        int twice = Build.sum(x, 1, 0x301, -5, 0x300, 7, 0);
+        check.due("decompose", x.decompose(), 1);
+        check.due("once", x.prove(once), 0);
+        check.due("once", x.told(7), 1);
+        Build.due(check, "once", x, 3, 0, -3, 0x101, 15, 0x100, 1, 0x011, 9, 0x010, 7, 0x001);
+        // The first leaves (15 - 3 a) x^2 + (a - 5) b x + 14 b + 7 a.
+        check.due("twice", x.prove(twice), 0);
+        check.due("twice", x.told(7), 2);
+        Build.due(check, "twice", x, 3, 0, 2, 0x121, -10, 0x120, 1, 0x112, -5, 0x111, 9, 0x101, -45, 0x100,
+                28, 0x020, 25, 0x011, 15, 0x010, 7, 0x002);
     }
 
     private static void degreesOfAStep() {
